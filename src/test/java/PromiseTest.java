@@ -126,7 +126,20 @@ public final class PromiseTest {
         Check.same("5: drop(0), the last", x.drop(0), true);
         Check.same("5: models() of none", x.models(), 8);
         Check.same("5: drop(0), none left", x.drop(0), false);
+        dropMovesBothSetsUp();
         dropOneOfTwoAlike();
+    }
+
+    private static void dropMovesBothSetsUp() {
+        StrategyDesk x = new StrategyDesk(3, 0);
+        x.add(0, 1);
+        x.add(0, 6);
+        x.add(1, 7);
+        x.drop(0);
+        x.drop(1);
+        Check.same("5: models() of the middle one", x.models(), 6);
+        x.drop(0);
+        Check.same("5: models() of none, by no variables", x.models(), 8);
     }
 
     private static void dropOneOfTwoAlike() {
@@ -190,6 +203,12 @@ public final class PromiseTest {
         Check.same("8: undo()", x.undo(), true);
         Check.same("8: undo() of nothing again", x.undo(), false);
         Check.same("8: played()", x.played(), 0);
+        StrategyDesk one = new StrategyDesk(1, 0);
+        one.add(1, 0);
+        one.play(1);
+        one.undo();
+        one.play(0);
+        Check.same("8: 0 after a 1 that was taken back", one.wins(), false);
     }
 
     private static void promise9Played() {
@@ -343,7 +362,7 @@ public final class PromiseTest {
         Check.same("15: a wrong one, Adam winning", reversed().harmless(4, 0), false);
         x.play(1);
         Check.same("15: from the beginning, not the play", x.harmless(1, 0), false);
-        while (x.clauses() < 24) {
+        for (int k = 2; k < 24; k++) {
             x.add(3, 3);
         }
         Check.same("15: when 24 are there, no", x.harmless(0, 1), false);
@@ -406,8 +425,18 @@ public final class PromiseTest {
         Check.same("18: no Adam, the one sum", alone.gap(), 0);
         alone.claim(1, 1);
         Check.same("18: no Adam, a strategy", alone.gap(), BAD);
+        claimsKnowWhatIsBeforeThem();
         gapCountsEarlierVariablesLess();
         gapOfFiveAdams();
+    }
+
+    private static void claimsKnowWhatIsBeforeThem() {
+        StrategyDesk x = reversed();
+        x.drop(1);
+        x.claim(0, 1);
+        Check.same("18: bit 0, whatever Adam sets later", x.gap(), BAD);
+        x.claim(0, 2);
+        Check.same("18: bit 1 stands for no sum", x.gap(), 1);
     }
 
     private static void gapCountsEarlierVariablesLess() {
